@@ -109,11 +109,11 @@ public final class SignetRing {
 
         /** A row of their own for count bytes from i on. */
         byte[] copied(int i, int count) {
-            byte[] copy = new byte[Math.max(count, 0)];
-            for (int j = 0; j < copy.length; j++) {
-                copy[j] = (byte) at(i + j);
+            int place = from + i;
+            if (i < 0 || count < 0 || count > size - i || place < 0 || count > row.length - place) {
+                return new byte[0];
             }
-            return copy;
+            return Arrays.copyOfRange(row, place, place + count);
         }
     }
 
@@ -141,8 +141,46 @@ public final class SignetRing {
         }
 
         void pushSpan(Span span, int start, int end) {
-            for (int i = start; i < end; i++) {
-                push(span.at(i));
+            int count = end - start;
+            int place = span.from + start;
+            if (size < 0 || start < 0 || count <= 0 || end > span.size) {
+                return;
+            }
+            if (place < 0 || count > span.row.length - place) {
+                return;
+            }
+            if (count > row.length - size) {
+                row = Arrays.copyOf(row, 2 * (size + count));
+            }
+            System.arraycopy(span.row, place, row, size, count);
+            size += count;
+        }
+
+        /** Writes what a seal adds to the thing that it seals. */
+        void pushSealed(Span seal, int sealedEnd) {
+            pushSpan(seal, 0, sealedEnd);
+            push(4);
+            push(255);
+            pushNumber(sealedEnd, 4);
+        }
+
+        /** Writes a key, or a part, as it is sealed. */
+        void pushKey(Span key) {
+            push(0x99);
+            pushNumber(key.size, 2);
+            pushSpan(key, 0, key.size);
+        }
+
+        /** Writes bytes with 13, 10 at the ends of their lines. */
+        void pushLines(Span span) {
+            int last = 0;
+            for (int i = 0; i < span.size; i++) {
+                int b = span.at(i);
+                if (b == 10 && last != 13) {
+                    push(13);
+                }
+                push(b);
+                last = b;
             }
         }
 
@@ -173,7 +211,7 @@ public final class SignetRing {
     /** Packets, read one behind the other. */
     private static final class Packets {
         final Span body = new Span(new byte[0], 0, 0);
-        final Bytes parts = new Bytes(MOST_BYTES);
+        final Bytes parts = new Bytes(256);
         Span in = body;
         int place;
         int next;
@@ -233,15 +271,14 @@ public final class SignetRing {
                 return false;
             }
             parts.size = 0;
-            int at = i;
-            while (at < in.size && isPart(at)) {
-                if (!cut(at + 1, 1L << in.at(at) - 224)) {
+            next = i;
+            for (int turn = 0; turn <= MOST_BYTES && isPart(next); turn++) {
+                if (!cut(next + 1, 1L << in.at(next) - 224)) {
                     return false;
                 }
                 parts.pushSpan(body, 0, body.size);
-                at = next;
             }
-            if (!readWhole(at)) {
+            if (!readWhole(next)) {
                 return false;
             }
             parts.pushSpan(body, 0, body.size);
@@ -257,7 +294,7 @@ public final class SignetRing {
 
     /** Lines, and the signs in them. */
     private static final class Signs {
-        final Bytes plain = new Bytes(MOST_BYTES);
+        final Bytes plain = new Bytes(1024);
         Span in = plain;
         int next;
         int start;
@@ -426,7 +463,8 @@ public final class SignetRing {
                 }
                 bits = bits << 6 | value;
             }
-            if (bits << 8 + 8 * count != 0 && count < 3) {
+            int left = (1 << 24 - 8 * count) - 1;
+            if ((bits & left) != 0) {
                 return false;
             }
             padded = count < 3;
@@ -526,26 +564,20 @@ public final class SignetRing {
         final int[] state = new int[8];
         final int[] words = new int[80];
         boolean second;
-        int fill;
-        long count;
-        int last;
 
-        void start(int which) {
+        void make(int which, Span span) {
             second = which == SECOND_HASH;
             for (int i = 0; i < 8; i++) {
                 state[i] = second ? START_SECOND[i] : START_FIRST[i];
             }
-            fill = 0;
-            count = 0;
-            last = 0;
-        }
-
-        void put(int b) {
-            int word = fill >> 2 & 15;
-            words[word] = words[word] << 8 | b & 255;
-            fill = fill + 1 & 63;
-            count++;
-            if (fill == 0) {
+            int blocks = (span.size + 8) / 64 + 1;
+            for (int block = 0; block < blocks; block++) {
+                for (int i = 0; i < 16; i++) {
+                    words[i] = wordOf(span, 64 * block + 4 * i);
+                }
+                if (block == blocks - 1) {
+                    words[15] = 8 * span.size;
+                }
                 if (second) {
                     mixSecond();
                 } else {
@@ -554,47 +586,11 @@ public final class SignetRing {
             }
         }
 
-        void putNumber(long value, int width) {
-            for (int i = width - 1; i >= 0; i--) {
-                put((int) (value >>> 8 * i));
-            }
-        }
-
-        void putSpan(Span span, int end) {
-            for (int i = 0; i < end; i++) {
-                put(span.at(i));
-            }
-        }
-
-        /** Puts bytes with 13, 10 at the ends of their lines. */
-        void putText(Span span) {
-            int last = 0;
-            for (int i = 0; i < span.size; i++) {
-                int b = span.at(i);
-                if (b == 10 && last != 13) {
-                    put(13);
-                }
-                put(b);
-                last = b;
-            }
-        }
-
-        /** Puts what follows the thing that is sealed, and ends. */
-        void finishSealed(Span seal, int sealedEnd) {
-            putSpan(seal, sealedEnd);
-            put(4);
-            put(255);
-            putNumber(sealedEnd, 4);
-            finish();
-        }
-
-        void finish() {
-            long bits = count * 8;
-            put(128);
-            for (int i = 0; i < 64 && fill != 56; i++) {
-                put(0);
-            }
-            putNumber(bits, 8);
+        /** Four bytes as a word: behind the last byte stands 128, and then zeros. */
+        static int wordOf(Span span, int place) {
+            int word = (int) span.number(place, 4);
+            int left = span.size - place;
+            return left >= 0 && left < 4 ? word | 128 << 24 - 8 * left : word;
         }
 
         int size() {
@@ -702,6 +698,10 @@ public final class SignetRing {
         int bytes;
         long inverse;
 
+        Power() {
+            one[0] = 1;
+        }
+
         /** Takes a key's n, unless it is the one that was taken last. */
         void open(Key key) {
             if (this.key == key) {
@@ -711,14 +711,33 @@ public final class SignetRing {
             bytes = (key.bits + 7) / 8;
             limbs = Math.max(1, Math.min((key.bits + BITS - 1) / BITS, MOST_LIMBS));
             load(modulus, key, key.exponentAt - bytes, bytes);
-            one[0] = 1;
-            long inverted = modulus[0];
-            for (int i = 0; i < 5; i++) {
-                inverted *= 2 - modulus[0] * inverted;
+            inverse = inverseOf(modulus[0]);
+            // unit is 1 in Montgomery's form: a power of 2 below n is doubled up to 2^(28 limbs)
+            int top = Math.max(key.bits - 1, 0);
+            Arrays.fill(unit, 0);
+            if (top / BITS < ROOM) {
+                unit[top / BITS] = 1L << top % BITS;
             }
-            inverse = -inverted & MASK;
-            makeUnit(key.bits);
-            makeSquare();
+            for (int i = top; i < BITS * limbs; i++) {
+                doubleUp(unit);
+            }
+            // square is 2^(28 limbs) in that form: it brings other numbers into it
+            System.arraycopy(unit, 0, square, 0, ROOM);
+            for (int bit = 10; bit >= 0; bit--) {
+                multiply(square, square, square);
+                if ((BITS * limbs >> bit & 1) != 0) {
+                    doubleUp(square);
+                }
+            }
+        }
+
+        /** What makes -1 of an odd number modulo 2^28; each turn doubles the bits that are right. */
+        static long inverseOf(long odd) {
+            long inverted = odd;
+            for (int i = 0; i < 5; i++) {
+                inverted *= 2 - odd * inverted;
+            }
+            return -inverted & MASK;
         }
 
         void load(long[] row, Span span, int from, int count) {
@@ -730,30 +749,6 @@ public final class SignetRing {
                 if (limb + 1 < row.length) {
                     row[limb] |= b << shift & MASK;
                     row[limb + 1] |= b << shift >> BITS;
-                }
-            }
-        }
-
-        /** unit is 1 in Montgomery's form: a power of 2 below n, doubled up to 2^(28 limbs). */
-        void makeUnit(int bits) {
-            Arrays.fill(unit, 0);
-            int top = Math.max(bits - 1, 0);
-            if (top / BITS < ROOM) {
-                unit[top / BITS] = 1L << top % BITS;
-            }
-            for (int i = top; i < BITS * limbs; i++) {
-                doubleUp(unit);
-            }
-        }
-
-        /** square is 2^(28 limbs) in Montgomery's form, which brings other numbers into it. */
-        void makeSquare() {
-            int exponent = BITS * limbs;
-            System.arraycopy(unit, 0, square, 0, ROOM);
-            for (int bit = 10; bit >= 0; bit--) {
-                multiply(square, square, square);
-                if ((exponent >> bit & 1) != 0) {
-                    doubleUp(square);
                 }
             }
         }
@@ -770,42 +765,42 @@ public final class SignetRing {
 
         /** Takes n away once, where a row (with a carry above it) is not below n. */
         void reduce(long[] row, long carry) {
-            boolean above = carry != 0 || !isBelow(row);
+            int top = Math.min(limbs, Math.min(row.length, ROOM));
+            int i = top - 1;
+            while (i > 0 && row[i] == modulus[i]) {
+                i--;
+            }
+            if (carry == 0 && i >= 0 && row[i] < modulus[i]) {
+                return;
+            }
             long borrow = 0;
-            for (int i = 0; above && i < limbs && i < row.length && i < ROOM; i++) {
-                long left = row[i] - modulus[i] + borrow;
-                row[i] = left & MASK;
+            for (int j = 0; j < top; j++) {
+                long left = row[j] - modulus[j] + borrow;
+                row[j] = left & MASK;
                 borrow = left >> BITS;
             }
-        }
-
-        boolean isBelow(long[] row) {
-            for (int i = Math.min(limbs, Math.min(row.length, ROOM)) - 1; i >= 0; i--) {
-                if (row[i] != modulus[i]) {
-                    return row[i] < modulus[i];
-                }
-            }
-            return false;
         }
 
         /** to becomes a b / 2^(28 limbs) modulo n; it may be one of the two. */
         void multiply(long[] a, long[] b, long[] to) {
             int top = limbs;
-            if (top > a.length || top > b.length || top > to.length || top > ROOM) {
+            long[] n = modulus;
+            long[] q = quotient;
+            if (top > a.length || top > b.length || top > to.length || top > n.length || top > q.length) {
                 return;
             }
             long sum = 0;
             for (int i = 0; i < top; i++) {
                 for (int j = 0; j < i; j++) {
-                    sum += a[j] * b[i - j] + quotient[j] * modulus[i - j];
+                    sum += a[j] * b[i - j] + q[j] * n[i - j];
                 }
                 sum += a[i] * b[0];
-                quotient[i] = sum * inverse & MASK;
-                sum = sum + quotient[i] * modulus[0] >>> BITS;
+                q[i] = sum * inverse & MASK;
+                sum = sum + q[i] * n[0] >>> BITS;
             }
             for (int i = 0; i < top; i++) {
                 for (int j = i + 1; j < top; j++) {
-                    sum += a[j] * b[i + top - j] + quotient[j] * modulus[i + top - j];
+                    sum += a[j] * b[i + top - j] + q[j] * n[i + top - j];
                 }
                 to[i] = sum & MASK;
                 sum >>>= BITS;
@@ -859,16 +854,8 @@ public final class SignetRing {
         int innerSize;
         int truth;
 
-        Seal() {
-            super(new byte[0], 0, 0);
-        }
-
-        /** A seal like this one, with a row of its own. */
-        Seal kept() {
-            Seal seal = new Seal();
-            seal.view(copied(0, size), 0, size);
-            seal.read();
-            return seal;
+        Seal(byte[] row) {
+            super(row, 0, row.length);
         }
 
         /** READ, or PASSED, or WRONG. */
@@ -999,7 +986,7 @@ public final class SignetRing {
 
     /** A key, or a part of one (which has neither users nor parts). */
     private static final class Key extends Place {
-        final boolean isPart;
+        final Key owner;
         final ArrayList<Place> users = new ArrayList<Place>();
         final ArrayList<Key> parts = new ArrayList<Key>();
         final byte[] print = new byte[PRINT_SIZE];
@@ -1012,14 +999,15 @@ public final class SignetRing {
         Span secret;
         boolean keptSecret;
 
-        Key(byte[] row, boolean isPart) {
+        /** A key, or a part, which has an owner. */
+        Key(byte[] row, Key owner) {
             super(row);
-            this.isPart = isPart;
+            this.owner = owner == null ? this : owner;
         }
 
-        /** A key like this one, with a row of its own, and without a secret. */
-        Key kept(boolean isPart) {
-            Key key = new Key(copied(0, size), isPart);
+        /** A key (or part) like this one, with a row of its own, and without a secret. */
+        Key kept(Key owner) {
+            Key key = new Key(copied(0, size), owner);
             System.arraycopy(print, 0, key.print, 0, PRINT_SIZE);
             key.made = made;
             key.bits = bits;
@@ -1028,7 +1016,7 @@ public final class SignetRing {
         }
 
         int kind() {
-            return isPart ? PUBLIC_PART : PUBLIC_KEY;
+            return owner == this ? PUBLIC_KEY : PUBLIC_PART;
         }
 
         boolean read(Span body, boolean withSecret) {
@@ -1075,10 +1063,28 @@ public final class SignetRing {
             }
         }
 
+        void makePrint(Digest digest, Bytes message) {
+            message.size = 0;
+            message.pushKey(this);
+            digest.make(FIRST_HASH, message);
+            for (int i = 0; i < PRINT_SIZE; i++) {
+                print[i] = (byte) digest.at(i);
+            }
+        }
+
+        /** Whether the print, but for its first bytes that are skipped, stands at a place. */
         boolean hasPrint(Span span, int at, int skipped) {
             boolean same = true;
             for (int i = Math.max(skipped, 0); same && i < PRINT_SIZE; i++) {
                 same = span.at(at + i - skipped) == (print[i] & 255);
+            }
+            return same;
+        }
+
+        boolean isLikeKey(Key other) {
+            boolean same = true;
+            for (int i = 0; same && i < PRINT_SIZE; i++) {
+                same = print[i] == other.print[i];
             }
             return same;
         }
@@ -1133,15 +1139,12 @@ public final class SignetRing {
     /** The keys, and how packets are joined with them. */
     private static final class Ring {
         final ArrayList<Key> keys = new ArrayList<Key>();
-        final Digest digest;
-        final Key newKey = new Key(new byte[0], false);
-        final Seal newSeal = new Seal();
+        final Digest digest = new Digest();
+        final Bytes message = new Bytes(256);
+        final Key newKey = new Key(new byte[0], null);
+        final Seal newSeal = new Seal(new byte[0]);
         Key key;
         Place place;
-
-        Ring(Digest digest) {
-            this.digest = digest;
-        }
 
         /** Joins all packets: how many keys were read; or a fault, and then nothing is joined. */
         int joinAll(Packets packets) {
@@ -1180,10 +1183,10 @@ public final class SignetRing {
                     return joinSeal(body);
                 case PUBLIC_KEY:
                 case SECRET_KEY:
-                    return joinKey(body, kind == SECRET_KEY);
+                    return joinKey(keys, null, body, kind == SECRET_KEY);
                 case PUBLIC_PART:
                 case SECRET_PART:
-                    return joinPart(body, kind == SECRET_PART);
+                    return key != null && joinKey(key.parts, key, body, kind == SECRET_PART);
                 case USER:
                     return joinUser(body);
                 case 10:
@@ -1195,68 +1198,35 @@ public final class SignetRing {
             }
         }
 
-        boolean readNew(Span body, boolean withSecret) {
-            if (!newKey.read(body, withSecret)) {
-                return false;
-            }
-            digest.start(FIRST_HASH);
-            digest.put(0x99);
-            digest.putNumber(newKey.size, 2);
-            digest.putSpan(newKey, newKey.size);
-            digest.finish();
-            for (int i = 0; i < PRINT_SIZE; i++) {
-                newKey.print[i] = (byte) digest.at(i);
-            }
-            return true;
-        }
-
         /** The one of some keys that has the print of the new one, or null. */
         Key known(ArrayList<Key> among) {
-            Span print = new Span(newKey.print, 0, PRINT_SIZE);
             Key found = null;
             for (int i = 0; found == null && i < among.size(); i++) {
-                if (among.get(i).hasPrint(print, 0, 0)) {
+                if (among.get(i).isLikeKey(newKey)) {
                     found = among.get(i);
                 }
             }
             return found;
         }
 
-        boolean joinKey(Span body, boolean withSecret) {
-            if (!readNew(body, withSecret)) {
+        /** Joins a key with others, or a part with those of its owner. */
+        boolean joinKey(ArrayList<Key> among, Key owner, Span body, boolean withSecret) {
+            if (!newKey.read(body, withSecret)) {
                 return false;
             }
-            Key there = known(keys);
+            newKey.makePrint(digest, message);
+            Key there = known(among);
             if (there == null) {
-                if (keys.size() >= MOST_KEYS) {
+                if (among.size() >= (owner == null ? MOST_KEYS : MOST_AT_KEY)) {
                     return false;
                 }
-                there = newKey.kept(false);
-                keys.add(there);
+                there = newKey.kept(owner);
+                among.add(there);
             }
             if (withSecret) {
                 there.giveSecret(body, newKey.secretAt);
             }
-            key = there;
-            place = there;
-            return true;
-        }
-
-        boolean joinPart(Span body, boolean withSecret) {
-            if (key == null || !readNew(body, withSecret)) {
-                return false;
-            }
-            Key there = known(key.parts);
-            if (there == null) {
-                if (key.parts.size() >= MOST_AT_KEY) {
-                    return false;
-                }
-                there = newKey.kept(true);
-                key.parts.add(there);
-            }
-            if (withSecret) {
-                there.giveSecret(body, newKey.secretAt);
-            }
+            key = there.owner;
             place = there;
             return true;
         }
@@ -1291,7 +1261,9 @@ public final class SignetRing {
             if (place.seals.size() >= MOST_SEALS) {
                 return false;
             }
-            place.seals.add(newSeal.kept());
+            Seal kept = new Seal(newSeal.copied(0, newSeal.size));
+            kept.read();
+            place.seals.add(kept);
             return true;
         }
     }
@@ -1302,36 +1274,35 @@ public final class SignetRing {
         private static final int[] FRONT_SECOND = {
             48, 49, 48, 13, 6, 9, 96, 134, 72, 1, 101, 3, 4, 2, 1, 5, 0, 4, 32};
 
-        final Digest digest;
+        final Digest digest = new Digest();
+        final Bytes message = new Bytes(1024);
         final Power power = new Power();
         final Bytes frame = new Bytes(128);
-        final Seal inner = new Seal();
-
-        Judge(Digest digest) {
-            this.digest = digest;
-        }
+        final Seal inner = new Seal(new byte[0]);
 
         void digestThing(Seal seal, Key key, Place place) {
-            digest.start(seal.hash);
-            digest.put(0x99);
-            digest.putNumber(key.size, 2);
-            digest.putSpan(key, key.size);
-            if (place != key) {
-                boolean user = place.kind() == USER;
-                digest.put(user ? 0xb4 : 0x99);
-                digest.putNumber(place.size, user ? 4 : 2);
-                digest.putSpan(place, place.size);
+            message.size = 0;
+            message.pushKey(key);
+            if (place.kind() == USER) {
+                message.push(0xb4);
+                message.pushNumber(place.size, 4);
+                message.pushSpan(place, 0, place.size);
+            } else if (place != key) {
+                message.pushKey(place);
             }
-            digest.finishSealed(seal, seal.sealedEnd);
+            message.pushSealed(seal, seal.sealedEnd);
+            digest.make(seal.hash, message);
         }
 
-        void digestDocument(int hash, int type, Span document) {
-            digest.start(hash);
+        void digestDocument(Span document, int type, int hash, Span seal, int sealedEnd) {
+            message.size = 0;
             if (type == 1) {
-                digest.putText(document);
+                message.pushLines(document);
             } else {
-                digest.putSpan(document, document.size);
+                message.pushSpan(document, 0, document.size);
             }
+            message.pushSealed(seal, sealedEnd);
+            digest.make(hash, message);
         }
 
         /** The number that stands for the digest, in as many bytes as n has. */
@@ -1355,15 +1326,11 @@ public final class SignetRing {
 
         /** Whether a seal of what was digested is true by a key. */
         boolean isTrueBy(Seal seal, Key by) {
-            int bits = (int) seal.number(seal.check + 2, 2);
-            if (seal.at(seal.check) != digest.at(0) || seal.at(seal.check + 1) != digest.at(1) || bits > by.bits) {
+            if (seal.at(seal.check) != digest.at(0) || seal.at(seal.check + 1) != digest.at(1) || !isBelow(seal, by)) {
                 return false;
             }
             power.open(by);
-            power.load(power.base, seal, seal.check + 4, (bits + 7) / 8);
-            if (!power.isBelow(power.base)) {
-                return false;
-            }
+            power.load(power.base, seal, seal.check + 4, seal.size - seal.check - 4);
             power.raise(by, by.exponentAt + 2, by.size - by.exponentAt - 2);
             makeFrame(power.bytes);
             boolean same = true;
@@ -1371,6 +1338,19 @@ public final class SignetRing {
                 same = power.byteAt(i) == frame.at(i);
             }
             return same;
+        }
+
+        /** Whether a seal's number is below a key's n; both tell how many bits they have. */
+        boolean isBelow(Seal seal, Key by) {
+            int bits = (int) seal.number(seal.check + 2, 2);
+            if (bits != by.bits) {
+                return bits < by.bits;
+            }
+            int i = 8;
+            while (i < by.exponentAt && seal.at(seal.check - 4 + i) == by.at(i)) {
+                i++;
+            }
+            return i < by.exponentAt && seal.at(seal.check - 4 + i) < by.at(i);
         }
 
         /** Writes the number that seals what was digested. */
@@ -1455,6 +1435,14 @@ public final class SignetRing {
             return found;
         }
 
+        /** What a key, or part, is at a time. */
+        int stateOf(Key asked, long t) {
+            Key key = asked.owner;
+            settle(key);
+            int state = keyState(key, t);
+            return asked == key ? state : partState(key, asked, state, t);
+        }
+
         int keyState(Key key, long t) {
             if (t < key.made) {
                 return 1;
@@ -1507,20 +1495,20 @@ public final class SignetRing {
     }
 
     private final Bytes bytes = new Bytes(MOST_BYTES);
-    private final Bytes told = new Bytes(MOST_BYTES);
-    private final Bytes clear = new Bytes(MOST_BYTES);
+    private final Bytes told = new Bytes(1024);
+    private final Bytes clear = new Bytes(1024);
     private final Bytes packet = new Bytes(256);
     private final Span letter = new Span(new byte[0], 0, 0);
     private final Packets packets = new Packets();
     private final Signs signs = new Signs();
-    private final Digest digest = new Digest();
     private final Digest toldDigest = new Digest();
-    private final Ring ring = new Ring(digest);
-    private final Judge judge = new Judge(digest);
-    private final Seal looked = new Seal();
-    private Bytes out = new Bytes(MOST_BYTES);
-    private Bytes spare = new Bytes(MOST_BYTES);
+    private final Ring ring = new Ring();
+    private final Judge judge = new Judge();
+    private final Seal looked = new Seal(new byte[0]);
+    private Bytes out = new Bytes(1024);
+    private Bytes spare = new Bytes(1024);
     private int toldHash;
+    private Key sealer;
 
     public SignetRing() {
     }
@@ -1558,7 +1546,11 @@ public final class SignetRing {
         }
         int answer = openLooked();
         if (answer == 0) {
-            answer = verdict(t);
+            answer = checkLooked(t);
+        }
+        if (answer == 0 && sealer != null) {
+            int state = judge.stateOf(sealer, t);
+            answer = state == 0 ? 0 : 10 + state;
         }
         bytes.size = 0;
         return answer;
@@ -1598,15 +1590,14 @@ public final class SignetRing {
     }
 
     public int usable(int k, int part, long t) throws IndexOutOfBoundsException, IllegalArgumentException {
-        Key key = found(k, -1);
         Key asked = found(k, part);
-        if (key == null || asked == null) {
+        if (asked == null) {
             throw new IndexOutOfBoundsException();
         }
         if (!isTime(t)) {
             throw new IllegalArgumentException();
         }
-        return stateOf(key, asked, t);
+        return judge.stateOf(asked, t);
     }
 
     public int seal(int k, int part, int form, long t)
@@ -1700,9 +1691,7 @@ public final class SignetRing {
             throw new IndexOutOfBoundsException();
         }
         if (toldHash != which) {
-            toldDigest.start(which == 1 ? FIRST_HASH : SECOND_HASH);
-            toldDigest.putSpan(told, told.size);
-            toldDigest.finish();
+            toldDigest.make(which == 1 ? FIRST_HASH : SECOND_HASH, told);
             toldHash = which;
         }
         return toldDigest.at(i);
@@ -1816,44 +1805,40 @@ public final class SignetRing {
         return packets.more() ? -1 - packets.next : 0;
     }
 
-    /** What the seal that is looked at comes to. */
-    private int verdict(long t) {
+    /** What the seal that is looked at comes to, before it is asked what its sealer is: 0 .. 4. */
+    private int checkLooked(long t) {
         if (looked.vain || looked.nameAt < 0 && looked.printAt < 0) {
             return 1;
         }
+        sealer = findSealer();
+        if (sealer == null) {
+            return 2;
+        }
+        judge.digestDocument(letter, looked.type, looked.hash, looked, looked.sealedEnd);
+        if (!judge.isTrueBy(looked, sealer)) {
+            return 3;
+        }
+        return looked.made > t || looked.hasEnded(t) ? 4 : 0;
+    }
+
+    private Key findSealer() {
         for (int i = 0; i < ring.keys.size(); i++) {
             Key key = ring.keys.get(i);
-            for (int part = -1; part < key.parts.size(); part++) {
-                Key by = part < 0 ? key : key.parts.get(part);
-                if (hasSealed(by)) {
-                    return verdictBy(key, by, t);
+            if (hasSealed(key)) {
+                return key;
+            }
+            for (int j = 0; j < key.parts.size(); j++) {
+                if (hasSealed(key.parts.get(j))) {
+                    return key.parts.get(j);
                 }
             }
         }
-        return 2;
+        return null;
     }
 
     private boolean hasSealed(Key by) {
-        return looked.printAt >= 0 ? by.hasPrint(looked, looked.printAt, 0) : by.hasPrint(looked, looked.nameAt, 12);
-    }
-
-    private int verdictBy(Key key, Key by, long t) {
-        judge.digestDocument(looked.hash, looked.type, letter);
-        digest.finishSealed(looked, looked.sealedEnd);
-        if (!judge.isTrueBy(looked, by)) {
-            return 3;
-        }
-        if (looked.made > t || looked.hasEnded(t)) {
-            return 4;
-        }
-        int state = stateOf(key, by, t);
-        return state == 0 ? 0 : 10 + state;
-    }
-
-    private int stateOf(Key key, Key asked, long t) {
-        judge.settle(key);
-        int state = judge.keyState(key, t);
-        return asked == key ? state : judge.partState(key, asked, state, t);
+        return looked.printAt >= 0 ? by.hasPrint(looked, looked.printAt, 0)
+            : by.hasPrint(looked, looked.nameAt, PRINT_SIZE - 8);
     }
 
     /** The document as it stands in clear text: without blanks at the ends of its lines. */
@@ -1892,14 +1877,13 @@ public final class SignetRing {
         packet.push(33);
         packet.push(4);
         pushPrint(by, 0);
-        judge.digestDocument(SECOND_HASH, type, document);
-        digest.finishSealed(packet, packet.size);
+        judge.digestDocument(document, type, SECOND_HASH, packet, packet.size);
         packet.pushNumber(10, 2);
         packet.push(9);
         packet.push(16);
         pushPrint(by, PRINT_SIZE - 8);
-        packet.push(digest.at(0));
-        packet.push(digest.at(1));
+        packet.push(judge.digest.at(0));
+        packet.push(judge.digest.at(1));
         judge.writeNumber(by, secret, packet);
     }
 
