@@ -825,6 +825,14 @@ public final class SignetRing {
             multiply(power, one, power);
         }
 
+        int countBits() {
+            int bits = 8 * bytes;
+            while (bits > 0 && byteAt(bytes - (bits + 7) / 8) >> (bits - 1) % 8 == 0) {
+                bits--;
+            }
+            return bits;
+        }
+
         /** Byte i of the power, of as many as n has, the highest first. */
         int byteAt(int i) {
             int bit = 8 * (bytes - 1 - i);
@@ -1359,16 +1367,9 @@ public final class SignetRing {
             makeFrame(power.bytes);
             power.load(power.base, frame, 0, frame.size);
             power.raise(secret, 0, secret.size);
-            int first = 0;
-            while (first < power.bytes && power.byteAt(first) == 0) {
-                first++;
-            }
-            int bits = 8 * (power.bytes - first);
-            for (int top = power.byteAt(first); top > 0 && top < 128; top <<= 1) {
-                bits--;
-            }
+            int bits = power.countBits();
             to.pushNumber(bits, 2);
-            for (int i = first; i < power.bytes; i++) {
+            for (int i = power.bytes - (bits + 7) / 8; i < power.bytes; i++) {
                 to.push(power.byteAt(i));
             }
         }

@@ -89,6 +89,7 @@ public final class JoinTest {
         joinIs("a huge length", -1, Kit.row(198, 255, 255, 255, 255, 255), body);
         joinIs("old, a huge length", -1, Kit.row(128 | 6 << 2 | 2, 255, 255, 255, 255), body);
         joinIs("a part", -1, Kit.row(198, 224 + 6), Kit.cut(body, 0, 64), Kit.row(size - 64), Kit.cut(body, 64, size));
+        joinIs("a part's length", -80, ADA.key(), Kit.row(192 | 13, 224, 0, 0, 0, 1, 5));
         joinIs("no bit 128", -1 - 79, ADA.key(), Kit.row(70, 0));
         joinIs("of a passed kind, not all there", -1 - 79, ADA.key(), Kit.row(192 | 40, 1));
         byte[] middle = new byte[300];
@@ -190,7 +191,9 @@ public final class JoinTest {
         noteIs("a note of length 0", false, Kit.row(0));
         noteIs("a note that is too long", false, Kit.row(2, 5));
         noteIs("half a length", false, Kit.row(192));
-        noteIs("a part's length", false, Kit.cat(Kit.row(224), Kit.row(5)));
+        noteIs("a part's length", false, Kit.row(224, 5));
+        noteIs("a part's length", false, Kit.row(224, 0, 0, 0, 1, 5));
+        noteIs("a part's length", false, Kit.row(254, 0, 0, 0, 5, 5));
         noteIs("a length of four bytes", true, Kit.row(255, 0, 0, 0, 1, 5));
         noteIs("a huge length", false, Kit.row(255, 255, 255, 255, 255, 5));
         noteIs("a length of two bytes", true, Kit.note(5, new byte[200]));
