@@ -80,6 +80,7 @@ public final class JoinTest {
         joinIs("old, two bytes", 1, Kit.row(128 | 6 << 2 | 1, 0, size), body);
         joinIs("old, four bytes", 1, Kit.row(128 | 6 << 2 | 2, 0, 0, 0, size), body);
         joinIs("old, none", -1, Kit.row(128 | 6 << 2 | 3), body);
+        joinIs("old, eight bytes", -1, Kit.row(128 | 6 << 2 | 3, 0, 0, 0, 0, 0, 0, 0, size), body);
         joinIs("two bytes", 1, Kit.packet(5, ADA.secret));
         joinIs("not all there", -1, Kit.row(198, size), Kit.cut(body, 0, size - 1));
         joinIs("no length", -1, Kit.row(198));

@@ -243,10 +243,14 @@ public final class UsableTest {
         partIs("ends", all(bound(120).keyLasts(20).by(ADA, PART)), 129, 0, 130, 2);
         partIs("without 27", all(Kit.seal(0x18, 120).sealed(inner(back(120))).by(ADA, PART)), 120, 5);
         partIs("27 without 2", all(bound(120).uses(4).by(ADA, PART)), 120, 5);
+        partIs("27 without 2", all(bound(120).uses(1).by(ADA, PART)), 120, 5);
+        partIs("27 of nothing", all(bound(120).uses(0).by(ADA, PART)), 120, 5);
         partIs("ended, and without 2", all(bound(120).uses(4).keyLasts(20).by(ADA, PART)), 129, 5, 130, 2);
         partIs("the one made last", all(bound(130).by(ADA, PART), bound(120).uses(4).by(ADA, PART)), 120, 5, 130, 0);
         partIs("the later one of alike ones", all(bound(120).by(ADA, PART), bound(120).uses(4).by(ADA, PART)), 120, 5);
         partIs("the later one of alike ones", all(bound(120).uses(4).by(ADA, PART), bound(120).by(ADA, PART)), 120, 0);
+        Kit.Pair old = new Kit.Pair(512, 5, 50, 6);
+        is("a part older than its key", Kit.ring(ADA.key(), BOND, old.part()), 0, 49, 1, 50, 1, 99, 1, 100, 4);
         byte[] part = Kit.cat(SUB.part(), bound(120).by(ADA, PART));
         is("as its key, unbound", Kit.ring(ADA.key(), part), 0, 99, 1, 120, 4);
         byte[] ends = Kit.seal(0x1f, 100).keyLasts(50).by(ADA, OWN);
