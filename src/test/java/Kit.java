@@ -393,6 +393,37 @@ final class Kit {
         return new Making(type, made);
     }
 
+    static Making making(Pair by, int type, long t) {
+        return seal(type, t).printed(by).named(by);
+    }
+
+    /** What promise 10 makes of a document. */
+    static byte[] made(Pair by, int form, byte[] document, long t) {
+        if (form == 0) {
+            return making(by, 0, t).by(by, document);
+        }
+        if (form == 1) {
+            return making(by, 1, t).by(by, lines(document));
+        }
+        if (form == 2) {
+            byte[] front = packet(4, cat(row(3, 0, 8, 1), by.name(), row(1)));
+            byte[] letter = packet(11, cat(row('b', 0, 0, 0, 0, 0), document));
+            return cat(front, letter, made(by, 0, document, t));
+        }
+        StringBuilder text = new StringBuilder("-----BEGIN SEALED TEXT-----\nHash: SHA256\n\n");
+        for (String line : new String(document, StandardCharsets.ISO_8859_1).split("\n", -1)) {
+            String stripped = line.replaceAll("[\t\r ]+\\z", "");
+            text.append(stripped.startsWith("-") ? "- " : "").append(stripped).append('\n');
+        }
+        return cat(text(text.toString()), signs("SEAL", made(by, 1, strip(document), t)));
+    }
+
+    /** A document without blanks at the ends of its lines. */
+    static byte[] strip(byte[] document) {
+        String text = new String(document, StandardCharsets.ISO_8859_1);
+        return text(text.replaceAll("[\t\r ]+(?=\n|\\z)", ""));
+    }
+
     /** A seal that no key made: what it is kept by is its number alone. */
     static byte[] idle(int number) {
         return packet(2, cat(row(4, 0x10, 1, 8, 0, 0, 0, 0), big(number, 2), row(0, 0)));

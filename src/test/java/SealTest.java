@@ -48,40 +48,11 @@ public final class SealTest {
         Kit.due("a part with a secret", () -> x.seal(0, 0, 0, 0) > 0 ? 1 : 0, 1);
     }
 
-    private static Kit.Making making(Kit.Pair by, int type, long t) {
-        return Kit.seal(type, t).printed(by).named(by);
-    }
-
-    private static byte[] made(Kit.Pair by, int form, byte[] document, long t) {
-        if (form == 0) {
-            return making(by, 0, t).by(by, document);
-        }
-        if (form == 1) {
-            return making(by, 1, t).by(by, Kit.lines(document));
-        }
-        if (form == 2) {
-            byte[] front = Kit.packet(4, Kit.cat(Kit.row(3, 0, 8, 1), by.name(), Kit.row(1)));
-            byte[] letter = Kit.packet(11, Kit.cat(Kit.row('b', 0, 0, 0, 0, 0), document));
-            return Kit.cat(front, letter, made(by, 0, document, t));
-        }
-        StringBuilder text = new StringBuilder("-----BEGIN SEALED TEXT-----\nHash: SHA256\n\n");
-        for (String line : new String(document, java.nio.charset.StandardCharsets.ISO_8859_1).split("\n", -1)) {
-            String stripped = line.replaceAll("[\t\r ]+$", "");
-            text.append(stripped.startsWith("-") ? "- " : "").append(stripped).append('\n');
-        }
-        return Kit.cat(Kit.text(text.toString()), Kit.signs("SEAL", made(by, 1, strip(document), t)));
-    }
-
-    private static byte[] strip(byte[] document) {
-        String text = new String(document, java.nio.charset.StandardCharsets.ISO_8859_1);
-        return Kit.text(text.replaceAll("[\t\r ]+(?=\n|\\z)", ""));
-    }
-
     private static void forms(Kit.Pair by, byte[] document, long t) {
         SignetRing x = Kit.told(Kit.ring(by.secretKey()), document);
         for (int form = 0; form < 4; form++) {
             int asked = form;
-            byte[] want = made(by, form, document, t);
+            byte[] want = Kit.made(by, form, document, t);
             Kit.due("seal of form " + form, () -> x.seal(0, -1, asked, t), want.length);
             Kit.outIs("seal of form " + form, x, want);
             if (want.length <= 4096) {
@@ -97,7 +68,7 @@ public final class SealTest {
         SignetRing x = Kit.told(Kit.ring(BIG.key(), ADA.key(), BIG.secretPart(), SUB.secretPart()), Kit.text("part"));
         for (int form = 0; form < 4; form++) {
             int asked = form;
-            byte[] want = made(SUB, form, Kit.text("part"), 9);
+            byte[] want = Kit.made(SUB, form, Kit.text("part"), 9);
             Kit.due("seal of form " + form + " by a part", () -> x.seal(1, 1, asked, 9), want.length);
             Kit.outIs("seal of form " + form + " by a part", x, want);
         }
@@ -110,7 +81,7 @@ public final class SealTest {
             BigInteger.TWO.pow(512).subtract(one)};
         for (BigInteger d : ds) {
             SignetRing x = Kit.told(Kit.ring(Kit.packet(5, Kit.secretOf(ADA.open, d, one, one, one))), Kit.text("any"));
-            Kit.Making making = making(ADA, 0, 5);
+            Kit.Making making = Kit.making(ADA, 0, 5);
             BigInteger s = new BigInteger(1, making.frame(64, Kit.text("any"))).modPow(d, ADA.n);
             byte[] want = Kit.packet(2, making.body(Kit.text("any"), s));
             Kit.due("seal with d " + d.bitLength(), () -> x.seal(0, -1, 0, 5), want.length);
@@ -124,7 +95,7 @@ public final class SealTest {
         int shorter = 0;
         for (long t = 0; t < 600; t++) {
             long asked = t;
-            byte[] want = made(ADA, 0, new byte[0], t);
+            byte[] want = Kit.made(ADA, 0, new byte[0], t);
             if (want.length < 117) {
                 shorter++;
                 Kit.due("a short number", () -> x.seal(0, -1, 0, asked), want.length);
