@@ -24,6 +24,7 @@ public final class EdgeCallsTest {
         hashWhich();
         hashPlace();
         hashSizes();
+        hashOfTheDocument();
         armorLabel();
         armorRoom();
         times();
@@ -231,6 +232,19 @@ public final class EdgeCallsTest {
             Run x = run("17: of a document of " + size + " bytes").maker();
             byte[] made = x.makeOut(size);
             x.take(size).bytesAre(made);
+        }
+    }
+
+    /** Each hash is asked for just before and just after the document becomes another. */
+    private static void hashOfTheDocument() {
+        byte[] one = Kit.text("one");
+        byte[] two = Kit.text("two");
+        for (int which = 1; which <= 2; which++) {
+            int first = Kit.hash(which == 1 ? 2 : 8, one)[0] & 255;
+            int second = Kit.hash(which == 1 ? 2 : 8, two)[0] & 255;
+            int none = Kit.hash(which == 1 ? 2 : 8, new byte[0])[0] & 255;
+            new Run("17: a hash of the document, not of another").hash(none, which, 0).document(one).hash(first, which, 0).document(two)
+                .hash(second, which, 0).bytes(one).hash(second, which, 0).documentIs(3).hash(first, which, 0).documentIs(0).hash(none, which, 0);
         }
     }
 

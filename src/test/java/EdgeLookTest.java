@@ -32,6 +32,7 @@ public final class EdgeLookTest {
         letterLengths();
         letterParts();
         lastParts();
+        partsThatAreNone();
         missing();
         wrongKinds();
         verdictOne();
@@ -49,6 +50,7 @@ public final class EdgeLookTest {
         clearSeal();
         clearRest();
         toldStays();
+        oneAfterTheOther();
         Kit.done();
     }
 
@@ -231,6 +233,18 @@ public final class EdgeLookTest {
         is("the last part is half a length", AT_LETTER, FRONT, inParts(body, Kit.row(192), 3));
         is("the last part is not all there", AT_LETTER, FRONT, inParts(body, Kit.row(1), 3));
         is("the last part's length is huge", AT_LETTER, FRONT, inParts(body, Kit.row(255, 255, 255, 255, 255), 3), sealOf(new byte[2]));
+    }
+
+    private static void partsThatAreNone() {
+        byte[] body = letter('b', 0, new byte[2]);
+        byte[] whole = Kit.cat(FRONT, Kit.row(192 | 11, 227), body);
+        for (int power = 7; power <= 30; power++) {
+            is("a second part of 2^" + power + " that is not all there", AT_LETTER, whole, Kit.row(224 + power), sealOf(new byte[2]));
+        }
+        byte[] four = Kit.cat(Kit.row(255), Kit.big(body.length, 4), body);
+        is("223 is the first byte of two", AT_LETTER, FRONT, Kit.row(192 | 11, 223), four, sealOf(new byte[2]));
+        is("224 is a part", 0, FRONT, Kit.row(192 | 11, 224), Kit.cut(body, 0, 1), Kit.row(255), Kit.big(body.length - 1, 4),
+            Kit.cut(body, 1, body.length), sealOf(new byte[2]));
     }
 
     private static void missing() {
@@ -482,5 +496,36 @@ public final class EdgeLookTest {
         Arrays.fill(whole, (byte) '\n');
         new Run("a document of 2,000 lines").join(1, BOUND).document(whole).look(0, 2000, Kit.seal(1, 2000).named(ADA).by(ADA, Kit.lines(whole)))
             .look(0, 2000, sealOf(whole));
+    }
+
+    /** What was looked at before leaves nothing behind. */
+    private static void oneAfterTheOther() {
+        byte[] two = letter('b', 0, new byte[2]);
+        byte[] inParts = Kit.cat(FRONT, inParts(two, Kit.row(0), 3), sealOf(new byte[2]));
+        run("a letter in parts after another").look(0, 2000, inParts).look(0, 2000, inParts).look(0, 2000, FRONT, LETTER, SEAL)
+            .look(-1 - FRONT.length, 2000, FRONT, Kit.row(192 | 11, 227), two).look(0, 2000, inParts).look(0, 2000, APART);
+        String a = BEGIN + "\na\n" + signs(clearSeal("a"));
+        String none = BEGIN + "\n" + signs(clearSeal(""));
+        run("clear text after another").look(0, 2000, Kit.text(a)).look(0, 2000, Kit.text(none)).look(0, 2000, Kit.text(a))
+            .look(-100000 - BEGIN.length() - 3, 2000, Kit.text(BEGIN + "\na\n-")).look(0, 2000, Kit.text(a)).look(0, 2000, APART);
+        byte[] inSigns = Kit.signs("SEAL", APART);
+        run("signs after others").look(0, 2000, inSigns).look(0, 2000, inSigns).look(-1, 2000, Kit.signs("SEAL", new byte[0]))
+            .look(0, 2000, Kit.signs("SEAL", Kit.cat(FRONT, LETTER, SEAL))).look(0, 2000, APART).look(0, 2000, inSigns);
+            byte[] vain = made(2000).sealed(Kit.note(128)).named(ADA).by(ADA, TOLD);
+        byte[] ends = made(1990).lasts(10).named(ADA).by(ADA, TOLD);
+        byte[] nameless = made(2000).by(ADA, TOLD);
+        byte[] noTime = new Kit.Making(0).named(ADA).by(ADA, TOLD);
+        byte[] byPrint = made(2000).printed(ADA).by(ADA, TOLD);
+        byte[] others = made(2000).printed(BO).by(ADA, TOLD);
+        byte[][] seals = {APART, vain, ends, nameless, noTime, byPrint, others};
+        long[] due = {0, 1, 4, 1, 1, 0, 2};
+        Run x = run("a seal after another");
+        for (int i = 0; i < 7; i++) {
+            x.look(due[i], 2000, seals[i]).look(0, 3000, APART);
+        }
+        Run y = run("a seal after another");
+        for (int i = 6; i >= 0; i--) {
+            y.look(due[i], 2000, seals[i]).look(due[(i + 3) % 7], 2000, seals[(i + 3) % 7]);
+        }
     }
 }

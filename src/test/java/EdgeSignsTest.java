@@ -33,6 +33,7 @@ public final class EdgeSignsTest {
         linesBehind();
         faultsOfPackets();
         made();
+        oneAfterTheOther();
         Kit.done();
     }
 
@@ -74,14 +75,12 @@ public final class EdgeSignsTest {
         is("each line up to a byte 10", 1, whole);
         is("the last one perhaps without it", 1, whole.substring(0, whole.length() - 1));
         is("a 13 alone ends no line", -100000, whole.replace("\n", "\r"));
-        for (int line = 0; line <= LAST; line++) {
-            String[] joined = LINES.clone();
-            joined[line] = joined[line] + LINES[line + 1];
-            String text = text(joined).replaceFirst("(?s)\\A((?:[^\n]*\n){" + (line + 1) + "})[^\n]*\n", "$1");
-            if (line < COLON || line >= SIGNS + 1 && line < LAST) {
-                is("a line " + line + " without 10", -100000 - place(line), text);
-            }
+        for (int line : new int[] {FIRST, SIGNS + 1, SUM}) {
+            int end = place(line + 1) - 1;
+            is("line " + line + " without its 10", -100000 - place(line), whole.substring(0, end) + whole.substring(end + 1));
         }
+        int between = place(SIGNS + 1) - 1;
+        is("two lines of signs without the 10 between are one", 1, whole.substring(0, between) + whole.substring(between + 1));
     }
 
     private static void blanksAtEnds() {
@@ -330,5 +329,17 @@ public final class EdgeSignsTest {
         new Run("none if there are no bytes").armor(none.length, 1).outIs(none).take(none.length).join(-1);
         byte[] again = Kit.signs("SEALED KEYS", none);
         new Run("signs of signs").armor(none.length, 1).armor(again.length, 0).outIs(again).take(again.length).join(-1);
+    }
+
+    /** Signs that were read before leave nothing behind: neither bytes, nor that an = was there. */
+    private static void oneAfterTheOther() {
+        for (int first = 0; first < 3; first++) {
+            for (int second = 0; second < 3; second++) {
+                byte[] one = Kit.signs("SEAL", Kit.cat(KEY, Kit.packet(13, new byte[first])));
+                byte[] other = Kit.signs("SEAL", Kit.cat(KEY, Kit.packet(13, new byte[second + 50])));
+                new Run("signs after others").join(1, one).join(1, other).key(2, 0, 2).join(-1, Kit.signs("SEAL", new byte[0])).join(1, one)
+                    .join(-100000 - one.length + 19, Kit.cut(one, 0, one.length - 19)).join(1, other).key(2, 0, 2).keys(1);
+            }
+        }
     }
 }

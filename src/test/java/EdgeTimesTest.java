@@ -36,6 +36,7 @@ public final class EdgeTimesTest {
         whatPartsAreFor();
         sealsInside();
         typesInside();
+        oneAfterTheOther();
         wrongAsked();
         Kit.done();
     }
@@ -381,6 +382,25 @@ public final class EdgeTimesTest {
         for (int type = 0; type < 256; type++) {
             insideIs("a seal of type 0x19, not " + type, inside(Kit.seal(type, 1100)), 1100, type == 0x19 ? 0 : 6);
         }
+    }
+
+    /** What was asked for before leaves nothing behind, and what is joined later counts. */
+    private static void oneAfterTheOther() {
+        byte[] vain = inside(new Kit.Making(0x19).sealed(Kit.note(128)));
+        Kit.Pair second = new Kit.Pair(505, 7, 1100, 4);
+        byte[] thing = Kit.thing(ADA, second);
+        byte[] good = Kit.note(32, Kit.seal(0x19, 1100).body(second, thing));
+        byte[] other = Kit.cat(second.part(), Kit.seal(0x18, 1100).uses(2).sealed(good).by(ADA, thing));
+        Run parts = new Run("one part after another").join(1, ada(BOND, sub(Kit.seal(0x18, 1100).uses(2).sealed(vain)), other));
+        parts.usable(6, 0, 0, 1100).usable(0, 0, 1, 1100).usable(6, 0, 0, 1100).usable(0, 0, -1, 1100).usable(0, 0, 1, 1100);
+        Run later = new Run("a seal that is joined later").join(1, ADA.key()).usable(4, 0, -1, 1000).join(1, ada(BOND)).usable(0, 0, -1, 1000);
+        later.join(1, ada(SUB.part())).usable(4, 0, 0, 1100).join(1, ada(sub(bound(1100)))).usable(0, 0, 0, 1100);
+        later.join(1, ada(revoking(1200))).usable(0, 0, 0, 1199).usable(3, 0, 0, 1200).usable(3, 0, -1, 1200).usable(0, 0, -1, 1199);
+        Run two = new Run("one key after another").join(2, ada(BOND), BO.key(), Kit.seal(0x1f, 1000).by(BO, Kit.thing(BO)));
+        two.usable(0, 0, -1, 1000).usable(0, 1, -1, 1000).usable(0, 0, -1, 1000).drop(1, 0).usable(0, 0, -1, 1000);
+        two.join(1, ADA.key()).usable(4, 1, -1, 1000).join(1, ada(BOND)).usable(0, 1, -1, 1000).usable(0, 0, -1, 1000);
+        Run gone = new Run("a seal that a fault took back").join(1, ada(BOND)).usable(0, 0, -1, 1200);
+        gone.join(-1 - ada(revoking(1200)).length, ada(revoking(1200)), Kit.row(0)).usable(0, 0, -1, 1200);
     }
 
     private static void wrongAsked() {
