@@ -261,6 +261,14 @@ public final class EdgeLookTest {
             }
             is("kinds 4, 11, 2: not second " + kind, AT_LETTER, FRONT, any, SEAL);
             is("kinds 4, 11, 2: not third " + kind, AT_SEAL, FRONT, LETTER, any);
+            // what stands in the packet would be right in one of the right kind
+            byte[] asLetter = Kit.packet(kind, letter('b', 0, TEXT));
+            is("a letter is of kind 11, not " + kind, kind == 11 ? 0 : AT_LETTER, FRONT, asLetter, SEAL);
+            byte[] asSeal = Kit.packet(kind, Kit.cut(SEAL, 2, SEAL.length));
+            is("a seal is of kind 2, not " + kind, kind == 2 ? 0 : AT_SEAL, FRONT, LETTER, asSeal);
+            is("a seal is of kind 2, not " + kind, kind == 2 ? 0 : -1, Kit.packet(kind, Kit.cut(APART, 2, APART.length)));
+            byte[] asFront = Kit.packet(kind, Kit.cut(FRONT, 2, FRONT.length));
+            is("a front is of kind 4, not " + kind, kind == 4 ? 0 : -1, asFront, LETTER, SEAL);
         }
         is("a seal for the letter", AT_LETTER, FRONT, SEAL);
         is("a letter alone", -1, LETTER);

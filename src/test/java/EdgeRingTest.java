@@ -10,6 +10,7 @@ public final class EdgeRingTest {
         oneOrMoreKeys();
         beforeTheFirstKey();
         passedKinds();
+        kindAlone();
         anyOrder();
         whereSealsBelong();
         sixteenKeys();
@@ -117,6 +118,25 @@ public final class EdgeRingTest {
                 run("in what is looked at they may not be there").look(-1, 5, packet, seal);
                 run("in what is looked at they may not be there").look(-1 - seal.length, 5, seal, packet);
                 run("without it").look(2, 5, seal);
+            }
+        }
+    }
+
+    /** What stands in a packet tells nothing of its kind. */
+    private static void kindAlone() {
+        byte[][] bodies = {Run.anyKey(8), Run.anySecret(Run.anyKey(8)), Kit.cut(Kit.idle(1), 2, 14)};
+        for (int kind = 0; kind < 64; kind++) {
+            boolean passed = kind == 10 || kind == 12 || kind == 17 || kind >= 40;
+            for (int i = 0; i < 3; i++) {
+                boolean fits = i == 0 ? kind == 6 || kind == 14 : i == 1 ? kind == 5 || kind == 7 : kind == 2;
+                // a key's bytes as a seal have another 1: that one is passed
+                boolean right = passed || fits || kind == 13 || kind == 2;
+                long due = !right ? -1 - SIZE : fits && (kind == 5 || kind == 6) ? 2 : 1;
+                Run x = run("kind " + kind + " with what another has").join(due, KEY, Kit.packet(kind, bodies[i]));
+                x.keys(due < 0 ? 0 : due);
+                if (due == 1) {
+                    x.keyIs(0, kind == 13 ? 1 : 0, fits && i < 2 ? 1 : 0, fits && i == 2 ? 1 : 0, 0);
+                }
             }
         }
     }
