@@ -38,16 +38,6 @@ public final class BasicsTest {
             all = Kit.cat(all, Kit.cut(Kit.row(0x11, 0x22, 0x33, 0x44, 0x55, 0x66, 0x77, 0x88), 0, n));
         }
         hashesAre(x, all);
-        for (int i = 0; i < 511; i++) {
-            x.add(0, 8);
-        }
-        Kit.due("add up to 4095", Kit.asLong(x.add(0, 7)), 1);
-        Kit.due("add beyond 4096", Kit.asLong(x.add(0, 2)), 0);
-        Kit.due("add up to 4096", Kit.asLong(x.add(0, 1)), 1);
-        Kit.due("add beyond 4096", Kit.asLong(x.add(0, 1)), 0);
-        Kit.due("document of 4096", x::document, 4096);
-        hashesAre(x, new byte[4096]);
-        Kit.due("the bytes are taken", Kit.asLong(x.add(0, 8)), 1);
     }
 
     private static void document() {
@@ -59,12 +49,12 @@ public final class BasicsTest {
     }
 
     private static void hash() {
-        SignetRing x = new SignetRing();
         for (int size : new int[] {1, 55, 56, 57, 63, 64, 65, 119, 120, 128, 1000}) {
             byte[] bytes = new byte[size];
             Arrays.fill(bytes, (byte) (size + 100));
-            hashesAre(Kit.told(x, bytes), bytes);
+            hashesAre(Kit.told(new SignetRing(), bytes), bytes);
         }
+        SignetRing x = new SignetRing();
         Kit.due("hash(0, 0)", () -> x.hash(0, 0), Kit.ARGUMENT);
         Kit.due("hash(3, 0)", () -> x.hash(3, 0), Kit.ARGUMENT);
         Kit.due("hash(3, -1)", () -> x.hash(3, -1), Kit.ARGUMENT);
@@ -91,19 +81,24 @@ public final class BasicsTest {
     private static void outSumTake() {
         Kit.Pair ada = new Kit.Pair(512, 65537, 1000, 1);
         SignetRing x = Kit.ring(ada.secretKey());
-        Kit.told(x, new byte[4090]);
-        Kit.due("seal", () -> x.seal(0, -1, 2, 7), 15 + 3 + 4096 + 117);
-        byte[] out = Kit.out(x, 15 + 3 + 4096 + 117);
+        byte[] document = Kit.text("one\ntwo");
+        byte[] out = Kit.made(ada, 2, document, 7);
+        Kit.told(x, document);
+        Kit.due("seal", () -> x.seal(0, -1, 2, 7), out.length);
+        for (int i = 0; i < out.length; i++) {
+            int place = i;
+            Kit.due("out(" + i + ")", () -> x.out(place), out[i] & 255);
+        }
+        Kit.due("out behind its end", () -> x.out(out.length), Kit.ARRAY);
         Kit.due("out(-1)", () -> x.out(-1), Kit.ARRAY);
         Kit.due("out(MAX)", () -> x.out(Integer.MAX_VALUE), Kit.ARRAY);
         Kit.due("out(MIN)", () -> x.out(Integer.MIN_VALUE), Kit.ARRAY);
         Kit.due("sum", x::sum, Kit.sum(out));
         Kit.feed(x, Kit.text("goes away"));
-        Kit.due("take of more than 4096", x::take, 4096);
-        Kit.due("add behind what was taken", Kit.asLong(x.add(0, 1)), 0);
-        Kit.due("document of what was taken", x::document, 4096);
-        hashesAre(x, Kit.cut(out, 0, 4096));
-        Kit.same("the out stays", Kit.hex(Kit.out(x, out.length)), Kit.hex(out));
+        Kit.due("take", x::take, out.length);
+        Kit.due("document of what was taken", x::document, out.length);
+        hashesAre(x, out);
+        Kit.due("the out stays", x::sum, Kit.sum(out));
         Kit.due("export", () -> x.export(0), 79);
         Kit.feed(x, Kit.text("goes away"));
         Kit.due("take", x::take, 79);

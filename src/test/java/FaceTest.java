@@ -6,10 +6,13 @@ import java.util.TreeSet;
 public final class FaceTest {
     private static final Kit.Pair ADA = new Kit.Pair(512, 65537, 100, 1);
     private static final Kit.Pair SUB = new Kit.Pair(504, 3, 110, 3);
+    private static final int MOST_CALLS = 512;
+    /** How many calls the object may still have. */
+    private static int left;
 
     public static void main(String[] args) {
         face();
-        for (int seed = 0; seed < 400; seed++) {
+        for (int seed = 0; seed < 3000; seed++) {
             randomCalls(new Random(seed));
         }
         Kit.done();
@@ -78,7 +81,9 @@ public final class FaceTest {
 
     private static void randomCalls(Random random) {
         SignetRing x = new SignetRing();
-        for (int i = 0; i < 60; i++) {
+        left = MOST_CALLS;
+        for (int i = 0; i < 60 && left > 4; i++) {
+            left--;
             int which = random.nextInt(18);
             int a = any(random);
             int b = any(random);
@@ -100,7 +105,7 @@ public final class FaceTest {
     private static long call(SignetRing x, int which, int a, int b, int c, long t, Random random) {
         switch (which) {
             case 0:
-                return Kit.join(x, spoil(seed(random), random));
+                return fed(x, spoil(seed(random), random)).join();
             case 1:
                 return x.add(t, a) ? 1 : 0;
             case 2:
@@ -138,16 +143,25 @@ public final class FaceTest {
         }
     }
 
+    /** Tells bytes, as far as the calls go. */
+    private static SignetRing fed(SignetRing x, byte[] bytes) {
+        byte[] first = Kit.cut(bytes, 0, Math.min(bytes.length, 8 * (left - 1)));
+        left -= (first.length + 7) / 8;
+        return Kit.feed(x, first);
+    }
+
     /** Looks at what was made last, spoilt a little. */
     private static long spoiltLook(SignetRing x, long t, Random random) {
         int size = x.take();
-        if (size > 0 && random.nextBoolean()) {
+        left -= 2;
+        if (size > 0 && size + size / 8 + 4 < left && random.nextBoolean()) {
             byte[] bytes = new byte[size];
             for (int i = 0; i < size; i++) {
                 bytes[i] = (byte) x.out(i);
             }
             x.document();
-            Kit.feed(x, spoil(bytes, random));
+            left -= size;
+            fed(x, spoil(bytes, random));
         }
         return x.look(t);
     }

@@ -18,7 +18,6 @@ public final class SealTest {
         forms(new Kit.Pair(1023, 257, 3, 5), Kit.text("one\ntwo"), 0xffffffffL);
         forms(ADA, new byte[185], 5);
         forms(ADA, new byte[186], 5);
-        forms(ADA, new byte[4096], 5);
         parts();
         anySecrets();
         shortNumbers();
@@ -49,9 +48,9 @@ public final class SealTest {
     }
 
     private static void forms(Kit.Pair by, byte[] document, long t) {
-        SignetRing x = Kit.told(Kit.ring(by.secretKey()), document);
         for (int form = 0; form < 4; form++) {
             int asked = form;
+            SignetRing x = Kit.told(Kit.ring(by.secretKey()), document);
             byte[] want = Kit.made(by, form, document, t);
             Kit.due("seal of form " + form, () -> x.seal(0, -1, asked, t), want.length);
             Kit.outIs("seal of form " + form, x, want);
@@ -59,15 +58,15 @@ public final class SealTest {
                 Kit.due("take", x::take, want.length);
                 Kit.due("it is true", () -> x.look(0xffffffffL), 14);
             }
+            Kit.due("the document stays", () -> x.hash(2, 0), Kit.hash(8, document)[0] & 255);
+            Kit.due("the key stays without a bond", () -> x.key(0, 4), 0);
         }
-        Kit.due("the document stays", () -> x.hash(2, 0), Kit.hash(8, document)[0] & 255);
-        Kit.due("the key stays without a bond", () -> x.key(0, 4), 0);
     }
 
     private static void parts() {
-        SignetRing x = Kit.told(Kit.ring(BIG.key(), ADA.key(), BIG.secretPart(), SUB.secretPart()), Kit.text("part"));
         for (int form = 0; form < 4; form++) {
             int asked = form;
+            SignetRing x = Kit.told(Kit.ring(BIG.key(), ADA.key(), BIG.secretPart(), SUB.secretPart()), Kit.text("part"));
             byte[] want = Kit.made(SUB, form, Kit.text("part"), 9);
             Kit.due("seal of form " + form + " by a part", () -> x.seal(1, 1, asked, 9), want.length);
             Kit.outIs("seal of form " + form + " by a part", x, want);
@@ -91,13 +90,13 @@ public final class SealTest {
 
     /** Numbers s of fewer bits than n come, by chance, with one of many times. */
     private static void shortNumbers() {
-        SignetRing x = Kit.ring(ADA.secretKey());
         int shorter = 0;
         for (long t = 0; t < 600; t++) {
             long asked = t;
             byte[] want = Kit.made(ADA, 0, new byte[0], t);
             if (want.length < 117) {
                 shorter++;
+                SignetRing x = Kit.ring(ADA.secretKey());
                 Kit.due("a short number", () -> x.seal(0, -1, 0, asked), want.length);
                 Kit.outIs("a short number", x, want);
                 x.take();

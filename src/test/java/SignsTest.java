@@ -45,24 +45,6 @@ public final class SignsTest {
         Kit.due("armor of more than 8000", () -> z.armor(0), Kit.UNSUPPORTED);
         Kit.due("armor of more, wrong label", () -> z.armor(7), Kit.ARGUMENT);
         Kit.outIs("the out stays", z, want);
-        edge(8000);
-        edge(8001);
-    }
-
-    /** Makes an out of just so many bytes: clear text whose first lines begin with -. */
-    private static void edge(int size) {
-        SignetRing x = Kit.ring(ADA.secretKey());
-        byte[] document = new byte[size % 2 == 0 ? 4095 : 4096];
-        int lines = (size - 42 - 206 - document.length - 1) / 2;
-        for (int i = 0; i < document.length; i++) {
-            document[i] = (byte) (i >= 2 * lines ? 'x' : i % 2 == 0 ? '-' : 10);
-        }
-        Kit.told(x, document);
-        Kit.due("clear text", () -> x.seal(0, -1, 3, 1), size);
-        byte[] out = Kit.out(x, size);
-        byte[] want = size > 8000 ? out : Kit.signs("SEALED LETTER", out);
-        Kit.due("armor of " + size, () -> x.armor(2), size > 8000 ? Kit.UNSUPPORTED : Integer.toString(want.length));
-        Kit.outIs("armor of " + size, x, want);
     }
 
     private static void joinIs(String what, long want, String text) {
