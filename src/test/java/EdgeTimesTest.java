@@ -22,6 +22,7 @@ public final class EdgeTimesTest {
         endedBeyondTheLastTime();
         whatFor();
         typesOfBonds();
+        sizesOfUsers();
         madeLast();
         alikeOnes();
         revokedUsers();
@@ -159,6 +160,18 @@ public final class EdgeTimesTest {
         is("a user's, not its own", ada(Kit.seal(0x13, 1000).by(ADA, USER), Kit.user("u")), 1000, 4);
         is("a user's, not another's", ada(Kit.user("v"), Kit.seal(0x13, 1000).by(ADA, USER)), 1000, 4);
         is("made by the key, not by another", ada(Kit.seal(0x1f, 1000).by(BO, OWN)), 1000, 4);
+    }
+
+    private static void sizesOfUsers() {
+        for (int size : new int[] {0, 1, 127, 128, 191, 192, 199, 200}) {
+            String name = "\u00fe".repeat(size);
+            byte[] user = Kit.cat(Kit.user(name), Kit.seal(0x13, 1000).by(ADA, Kit.thing(ADA, name)));
+            is("a user is 0xb4, four bytes, its bytes: " + size, ada(user), 1000, 0);
+            byte[] two = Kit.cat(ADA.sealed(), Kit.row(0xb4), Kit.big(size, 2), Kit.text(name));
+            is("four bytes, not two: " + size, ada(Kit.user(name), Kit.seal(0x13, 1000).by(ADA, two)), 1000, 4);
+            byte[] none = Kit.cat(ADA.sealed(), Kit.text(name));
+            is("0xb4 and four bytes, not none: " + size, ada(Kit.user(name), Kit.seal(0x13, 1000).by(ADA, none)), 1000, 4);
+        }
     }
 
     private static byte[] says(int type, long made, int uses, byte[] thing) {
